@@ -258,6 +258,16 @@ public final class DeskTest {
         x.end(1, 0, false);
         x.set(600);
         Checks.due("set when the run is over", x.now(), 600);
+
+        for (int job = 0; job < 6; job++) {
+            TimedRuns y = new TimedRuns();
+            for (int other = 0; other < 6; other++) {
+                Checks.job(y, "* * * * *", 0);
+            }
+            y.task(job, 0, 1, 0);
+            y.pass(1);
+            Checks.thrown("set, job " + job + " alone under way", y, Checks.STATE, () -> y.set(600));
+        }
     }
 
     private static void endsWell() {

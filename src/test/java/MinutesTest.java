@@ -43,6 +43,11 @@ public final class MinutesTest {
         Checks.due("weekday of 0", x.part(0, 5), 6);
         Checks.due("weekday of 1440", x.part(1440, 5), 0);
         Checks.due("29 February 2000", x.part(59 * 1440, 2), 29);
+        for (int leap = 0; leap < 800; leap++) {
+            TimedRuns fresh = new TimedRuns();
+            part(fresh, leap * 1440);
+            part(fresh, leap * 1440 + 1440 * leap);
+        }
         // Upward day after day, downward, and in leaps: each way of turning to a day is gone.
         for (int minute = 0; minute < LIMIT; minute += 1440) {
             part(x, minute);

@@ -9,11 +9,14 @@ import java.util.regex.Pattern;
 /** Long runs of calls, each answered by the class and by a model written another way from the document. */
 public final class ModelTest {
     private static final int LIMIT = 20000000;
+    /** What later calls answer is free. */
     private static final int CALLS = 512;
+    private static final int MOST_CALLS_AT_ONCE = 12;
+    private static final int ENTRY_CALLS = 64 * 4;
 
     public static void main(String[] args) {
         // The same seeds always, so that a wrong run can be seen again.
-        for (int seed = 1; seed <= 300; seed++) {
+        for (int seed = 1; seed <= 600; seed++) {
             new Run(seed).make();
         }
         faultsOfManyTexts();
@@ -467,10 +470,9 @@ public final class ModelTest {
                     makeTask(model.jobs.size() - 1);
                 }
             }
-            while (call < CALLS - 12) {
+            while (call < CALLS - MOST_CALLS_AT_ONCE - ENTRY_CALLS) {
                 makeCall();
             }
-            // Of the whole log, this is not counted as calls of the run any more.
             for (int k = 0; k < 64; k++) {
                 for (int part = 0; part < 4; part++) {
                     int back = k;
@@ -492,6 +494,7 @@ public final class ModelTest {
             due("job(" + rank + ")", () -> x.job(rank), model.job(rank));
             due("fault()", () -> x.fault(), model.fault);
             if (!model.text.isEmpty()) {
+                call++;
                 x.erase();
                 model.text = "";
             }
