@@ -1,13 +1,13 @@
+import java.lang.reflect.InvocationTargetException;
+import java.lang.reflect.Method;
+import java.lang.reflect.Modifier;
 import java.util.Objects;
+import java.util.TreeMap;
 
-/** What all tests use: making calls, telling their answers as texts, and counting the wrong ones. */
+/** What all tests use: running them, telling answers as texts, and counting the wrong ones. */
 final class Checks {
     interface Call {
         long make();
-    }
-
-    interface Act {
-        void make();
     }
 
     static final String INDEX = "IndexOutOfBoundsException";
@@ -15,17 +15,53 @@ final class Checks {
     static final String STATE = "IllegalStateException";
     static final String UNSUPPORTED = "UnsupportedOperationException";
 
+    static final int NONE = -1;
+    static final int LIMIT = 20000000;
+    static final int LEAST = Integer.MIN_VALUE;
+    static final int MOST = Integer.MAX_VALUE;
+
     private static int made = 0;
     private static int wrong = 0;
+    private static String test = "";
 
     private Checks() {
+    }
+
+    /** Makes every test of a class: its functions without parameters that are named after a promise or a term. */
+    static void run(Class<?> tests) {
+        TreeMap<String, Method> named = new TreeMap<>();
+        for (Method m : tests.getDeclaredMethods()) {
+            boolean isTest = m.getName().startsWith("promise") || m.getName().startsWith("terms");
+            if (isTest && Modifier.isStatic(m.getModifiers()) && m.getParameterCount() == 0) {
+                named.put(m.getName(), m);
+            }
+        }
+        for (Method m : named.values()) {
+            make(m);
+        }
+        due("the class has tests", !named.isEmpty(), true);
+        close();
+    }
+
+    private static void make(Method m) {
+        test = m.getName() + ": ";
+        int before = made;
+        try {
+            m.invoke(null);
+        } catch (InvocationTargetException e) {
+            due("threw", e.getCause(), null);
+        } catch (IllegalAccessException e) {
+            due("threw", e, null);
+        }
+        due("checks something", made > before, true);
+        test = "";
     }
 
     static void due(String what, Object got, Object want) {
         made++;
         if (!Objects.equals(got, want)) {
             wrong++;
-            System.out.println(what + " answered " + got + ", due is " + want);
+            System.out.println(test + what + " answered " + got + ", due is " + want);
         }
     }
 
@@ -46,77 +82,12 @@ final class Checks {
         }
     }
 
-    /** The call throws this exception, and nothing that can be seen changes. */
-    static void thrown(String what, TimedRuns x, String name, Call call) {
-        String before = seen(x);
-        due(what, answer(call), name);
-        due(what + " and what is seen then", seen(x), before);
-    }
-
-    static void thrown(String what, TimedRuns x, String name, Act act) {
-        thrown(what, x, name, () -> {
-            act.make();
-            return 0;
-        });
-    }
-
-    /** All that an object tells of itself, but for the text. */
-    static String seen(TimedRuns x) {
-        StringBuilder all = new StringBuilder();
-        all.append(x.now()).append(' ').append(x.fault()).append(' ').append(x.count(0, 4));
-        for (int job = 0; job < 6; job++) {
-            all.append("\njob ").append(job).append(':');
-            for (int what = 0; what < 4; what++) {
-                all.append(' ').append(x.count(job, what));
-            }
-            for (int task = 0; task < 6; task++) {
-                all.append(' ').append(x.state(job, task));
-            }
-        }
-        return all.append("\n").append(x.entries()).append(log(x, 64)).toString();
-    }
-
-    /** The latest entries, the oldest of them first: kind@minute:job.task. */
-    static String log(TimedRuns x, int most) {
-        StringBuilder all = new StringBuilder();
-        for (int k = Math.min(most, Math.min(64, x.entries())) - 1; k >= 0; k--) {
-            all.append(' ').append(x.entry(k, 0)).append('@').append(x.entry(k, 1)).append(':').append(x.entry(k, 2));
-            if (x.entry(k, 3) != TimedRuns.NONE) {
-                all.append('.').append(x.entry(k, 3));
-            }
-        }
-        return all.toString().trim();
-    }
-
     static long row(String signs) {
         long row = 0;
         for (int i = signs.length() - 1; i >= 0; i--) {
             row = row << 8 | signs.charAt(i);
         }
         return row;
-    }
-
-    static void type(TimedRuns x, String text) {
-        for (int i = 0; i < text.length(); i += 8) {
-            due("type " + text, x.type(row(text.substring(i, Math.min(text.length(), i + 8)))), true);
-        }
-    }
-
-    static TimedRuns typed(String text) {
-        TimedRuns x = new TimedRuns();
-        type(x, text);
-        return x;
-    }
-
-    static int job(TimedRuns x, String text, int rank) {
-        type(x, text);
-        return x.job(rank);
-    }
-
-    static TimedRuns withJob(String text) {
-        TimedRuns x = new TimedRuns();
-        due("job of " + text, answer(() -> job(x, text, 0)), "0");
-        return x;
     }
 
     static void close() {

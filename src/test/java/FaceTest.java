@@ -6,17 +6,13 @@ import java.util.Arrays;
 import java.util.Set;
 import java.util.TreeSet;
 
-/** The public face, and promise 1: a new object. */
+/** The public face, and what LANGUAGE.md, rule 1, says of it. */
 public final class FaceTest {
     public static void main(String[] args) {
-        theFaceIsTheDocuments();
-        noPrivateMethodBearsAPublicName();
-        aNewObjectIsEmpty();
-        objectsAreApart();
-        Checks.close();
+        Checks.run(FaceTest.class);
     }
 
-    private static void theFaceIsTheDocuments() {
+    static void termsTheFaceIsTheDocuments() {
         Set<String> members = new TreeSet<>();
         for (Method m : TimedRuns.class.getDeclaredMethods()) {
             if (!Modifier.isPrivate(m.getModifiers()) && !m.isSynthetic()) {
@@ -75,8 +71,7 @@ public final class FaceTest {
         return all.append(")").toString();
     }
 
-    /** LANGUAGE.md, rule 1. */
-    private static void noPrivateMethodBearsAPublicName() {
+    static void termsNoPrivateMethodBearsAPublicName() {
         Set<String> open = new TreeSet<>();
         for (Method m : TimedRuns.class.getDeclaredMethods()) {
             if (Modifier.isPublic(m.getModifiers())) {
@@ -93,38 +88,5 @@ public final class FaceTest {
                 Checks.due(inner + "." + m.getName() + " bears a public name", open.contains(m.getName()), false);
             }
         }
-    }
-
-    private static void aNewObjectIsEmpty() {
-        TimedRuns x = new TimedRuns();
-        Checks.due("now() at first", x.now(), 0);
-        Checks.due("entries() at first", x.entries(), 0);
-        Checks.due("fault() at first", x.fault(), -1);
-        Checks.due("count(0, 4) at first", x.count(0, 4), 0);
-        Checks.due("count(0, 0) at first", x.count(0, 0), -1);
-        Checks.due("state(0, 0) at first", x.state(0, 0), -1);
-        Checks.thrown("end(0, 0) at first", x, Checks.INDEX, () -> x.end(0, 0, true));
-        Checks.thrown("entry(0, 0) at first", x, Checks.INDEX, () -> x.entry(0, 0));
-        Checks.thrown("down(false) at first", x, Checks.STATE, () -> x.down(false));
-        Checks.due("job() at first", Checks.answer(() -> x.job(0)), Checks.ARGUMENT);
-        Checks.due("fault() of the empty text", x.fault(), 0);
-        Checks.due("down(true) at first", Checks.answer(() -> x.down(true)), "0");
-
-        TimedRuns two = Checks.withJob("* * * * *");
-        for (int t = 0; t < 3; t++) {
-            two.task(0, 0, 1, 0);
-        }
-        Checks.due("two slots at first", two.pass(1), 2);
-    }
-
-    private static void objectsAreApart() {
-        TimedRuns one = Checks.withJob("* * * * *");
-        TimedRuns other = new TimedRuns();
-        one.pass(3);
-        one.type(Checks.row("abc"));
-        Checks.due("now() of another", other.now(), 0);
-        Checks.due("entries() of another", other.entries(), 0);
-        Checks.due("count(0, 3) of another", other.count(0, 3), -1);
-        Checks.due("job of another", Checks.answer(() -> Checks.job(other, "1 * * * *", 0)), "0");
     }
 }

@@ -8,7 +8,6 @@ import java.util.regex.Pattern;
 
 /** Long runs of calls, each answered by the class and by a model written another way from the document. */
 public final class ModelTest {
-    private static final int LIMIT = 20000000;
     /** What later calls answer is free. */
     private static final int CALLS = 512;
     private static final int MOST_CALLS_AT_ONCE = 12;
@@ -30,7 +29,10 @@ public final class ModelTest {
             if (text.length() > 60) {
                 continue;
             }
-            TimedRuns x = Checks.typed(text);
+            TimedRuns x = new TimedRuns();
+            for (char sign : text.toCharArray()) {
+                x.type(sign);
+            }
             int want = Texts.fault(text);
             Checks.due("job of \"" + text + "\"", Checks.answer(() -> x.job(0)), want == -1 ? "0" : Checks.ARGUMENT);
             Checks.due("fault of \"" + text + "\"", x.fault(), want);
@@ -248,7 +250,7 @@ public final class ModelTest {
             if (n < 1 || n > 5000) {
                 return Checks.ARGUMENT;
             }
-            if (now + n >= LIMIT) {
+            if (now + n >= Checks.LIMIT) {
                 return Checks.STATE;
             }
             int started = 0;
@@ -270,7 +272,7 @@ public final class ModelTest {
             if (down || jobs.stream().anyMatch(j -> j.underWay)) {
                 return Checks.STATE;
             }
-            if (minute < now || minute >= LIMIT) {
+            if (minute < now || minute >= Checks.LIMIT) {
                 return Checks.ARGUMENT;
             }
             now = minute;
@@ -530,7 +532,7 @@ public final class ModelTest {
                     makeMinuteCall(job);
                     break;
                 case 4:
-                    int minute = luck.nextInt(4) == 0 ? luck.nextInt(LIMIT) : model.now + luck.nextInt(3000) - 20;
+                    int minute = luck.nextInt(4) == 0 ? luck.nextInt(Checks.LIMIT) : model.now + luck.nextInt(3000) - 20;
                     due("set(" + minute + ")", () -> {
                         x.set(minute);
                         return 0;
@@ -569,22 +571,22 @@ public final class ModelTest {
         }
 
         private void makeMinuteCall(int job) {
-            int minute = luck.nextInt(9) == 0 ? luck.nextInt(3) - 1 + LIMIT : luck.nextInt(LIMIT);
+            int minute = luck.nextInt(9) == 0 ? luck.nextInt(3) - 1 + Checks.LIMIT : luck.nextInt(Checks.LIMIT);
             String want = null;
             if (job < 0 || job >= model.jobs.size()) {
                 want = Checks.INDEX;
-            } else if (minute >= LIMIT) {
+            } else if (minute >= Checks.LIMIT) {
                 want = Checks.ARGUMENT;
             }
             due("holds(" + job + ", " + minute + ")", () -> x.holds(job, minute) ? 1 : 0,
                 want != null ? want : model.jobs.get(job).holds(minute) ? "1" : "0");
             if (want == null) {
                 int at = minute + 1;
-                while (at < minute + 100000 && at < LIMIT && !model.jobs.get(job).holds(at)) {
+                while (at < minute + 100000 && at < Checks.LIMIT && !model.jobs.get(job).holds(at)) {
                     at++;
                 }
-                if (at == LIMIT || at < minute + 100000) {
-                    want = at == LIMIT ? "-1" : "" + at;
+                if (at == Checks.LIMIT || at < minute + 100000) {
+                    want = at == Checks.LIMIT ? "-1" : "" + at;
                 } else {
                     return;
                 }
