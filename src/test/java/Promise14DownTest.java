@@ -102,6 +102,8 @@ public final class Promise14DownTest {
         x.job("0 0 29 2 *", 0);
         x.job("0 0 28 2 *", 0);
         x.job("0 0 30 2 *", 0);
+        x.job("1 0 31 12 *", 0);
+        x.job("0 0 31 12 *", 0);
         x.set(Calendar.minute(2003, 12, 31, 0, 0));
         x.down(true);
         while (x.now() < Calendar.minute(2004, 2, 29, 0, 0)) {
@@ -111,6 +113,8 @@ public final class Promise14DownTest {
         Checks.due("29 February", x.count(0, 0), 1);
         Checks.due("28 February", x.count(1, 0), 1);
         Checks.due("30 February", x.count(2, 0), 0);
+        Checks.due("the first minute of the fall", x.count(3, 0), 1);
+        Checks.due("the minute of the fall", x.count(4, 0), 0);
     }
 
     static void promise14WhatRanEndsBadlyByJobsAndTasks() {
@@ -221,8 +225,9 @@ public final class Promise14DownTest {
 
     static void promise14TheSecondFallCountsFromItself() {
         Desk x = Desk.withTasks("5 * * * *", 1);
+        x.pass(4);
         x.down(true);
-        x.pass(6);
+        x.pass(2);
         Checks.due("the first", x.down(false), 1);
         x.end(0, 0, true);
         x.down(true);
@@ -230,6 +235,10 @@ public final class Promise14DownTest {
         Checks.due("the second", x.down(false), 0);
         Checks.due("runs", x.count(0, 0), 1);
         Checks.due("missed", x.count(0, 1), 0);
+        x.pass(1);
+        x.down(true);
+        x.pass(60);
+        Checks.due("the third", x.down(false), 1);
     }
 
     static void promise14StepsGoOnWhenItIsUp() {

@@ -23,14 +23,19 @@ public final class TermsExpressionTest {
         Desk x = Desk.withJob(alone(which, field));
         StringBuilder all = new StringBuilder();
         for (int number = LOW[which]; number <= (which == 4 ? 6 : HIGH[which]); number++) {
-            // 2 January 2000 is the first Sunday.
-            int[] minutes = {number, number * 60, (number - 1) * 1440,
-                Calendar.minute(2000, which == 3 ? number : 1, 1, 0, 0), (number + 1) * 1440};
-            if (x.holds(0, minutes[which])) {
+            if (x.holds(0, minuteOf(which, number))) {
                 all.append(all.length() > 0 ? " " : "").append(number);
             }
         }
         return all.toString();
+    }
+
+    /** A minute that has this number in a field, and in the others what alone() asks for. */
+    private static int minuteOf(int which, int number) {
+        // 2 January 2000 is the first Sunday.
+        int[] minutes = {number, number * 60, (number - 1) * 1440,
+            Calendar.minute(2000, which == 3 ? number : 1, 1, 0, 0), (number + 1) * 1440};
+        return minutes[which];
     }
 
     private static String range(int from, int to) {
@@ -240,6 +245,25 @@ public final class TermsExpressionTest {
         Checks.due("a job behind a free one", x.holds(1, at) && x.holds(1, other), true);
         Checks.due("a free one behind it", x.holds(2, at) && !x.holds(2, other), true);
         Checks.due("the first still", x.holds(0, at) && x.holds(0, other), true);
+    }
+
+    static void termsNumbersAreOfThisTextAlone() {
+        for (int which = 0; which < 5; which++) {
+            Desk x = new Desk();
+            x.type(alone(which, "1,3"));
+            x.type("x");
+            Checks.due("job() of no expression", Checks.answer(() -> x.job(0)), Checks.ARGUMENT);
+            x.erase();
+            x.job(alone(which, "2,4"), 0);
+            x.job(alone(which, "5"), 0);
+            for (int job = 0; job < 2; job++) {
+                StringBuilder got = new StringBuilder();
+                for (int number = 1; number < 7; number++) {
+                    got.append(x.holds(job, minuteOf(which, number)) ? number + " " : "");
+                }
+                Checks.due("the numbers of field " + which, got.toString(), job == 0 ? "2 4 " : "5 ");
+            }
+        }
     }
 
     static void termsTheLeapDay() {

@@ -145,6 +145,18 @@ public final class TermsJobsTest {
         Checks.due("the third", x.pass(1), 1);
     }
 
+    static void termsReadyWhenOneThatNeedsOthersHasPaused() {
+        Desk x = Desk.withTasks(ONCE, 1);
+        x.task(0, 1, 2, 3);
+        x.pass(1);
+        x.end(0, 0, true);
+        x.pass(1);
+        x.end(0, 1, false);
+        Checks.due("two minutes", x.pass(2), 0);
+        Checks.due("the third", x.pass(1), 1);
+        Checks.due("states", x.states(0), "43");
+    }
+
     static void termsReadyLaterWhenNoSlotIsFree() {
         Desk x = Desk.withJob(ONCE);
         x.task(0, 0, 2, 3);
@@ -304,6 +316,24 @@ public final class TermsJobsTest {
         Checks.due("two minutes", x.pass(2), 0);
         Checks.due("the third", x.pass(1), 1);
         Checks.due("at", x.entry(0, 1), 14);
+    }
+
+    static void termsEndAPauseBeyondTheLastMinute() {
+        Desk x = Desk.withJob("* * * * *");
+        x.task(0, 0, 2, 10);
+        x.set(Checks.LIMIT - 11);
+        x.pass(1);
+        Checks.due("end", x.end(0, 0, false), 2);
+        Checks.due("to the last", x.pass(9), 0);
+        x.down(true);
+        Checks.due("up at the last", x.down(false), 0);
+        Checks.due("pausing still", x.state(0, 0), 2);
+        Desk y = Desk.withJob("* * * * *");
+        y.task(0, 0, 2, 9);
+        y.set(Checks.LIMIT - 11);
+        y.pass(1);
+        y.end(0, 0, false);
+        Checks.due("one minute less", y.pass(9), 1);
     }
 
     static void termsEndAPauseOf0() {
@@ -479,6 +509,19 @@ public final class TermsJobsTest {
         x.end(0, 0, true);
         Checks.due("pass(1)", x.pass(1), 1);
         Checks.due("entry", x.log(1), "3@2:0.2");
+    }
+
+    static void termsAStepStartsNothingBeforeItFires() {
+        Desk x = new Desk();
+        x.job(ONCE, 0);
+        x.tasks(0, 2);
+        x.job("2 0 1 1 *", 1);
+        x.tasks(1, 1);
+        x.slots(1);
+        x.pass(1);
+        x.end(0, 0, true);
+        Checks.due("pass(1)", x.pass(1), 1);
+        Checks.due("what waited gives way to a greater rank", x.log(2), "1@2:1 3@2:1.0");
     }
 
     static void termsAStepFiresWhatHoldsThenAlone() {
