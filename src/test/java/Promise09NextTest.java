@@ -77,24 +77,35 @@ public final class Promise09NextTest {
         String[] texts = {"*/17 3-5 * * *", "5 4 13 * 5", "5 4 */13 * 5", "0 0 1 1 0", "30 12 31 * *", "7 7 * */5 7",
             "59 23 28-31/3 2,4 *", "1-9/4 0 * 2 1-7/3"};
         for (String text : texts) {
-            // The searching object is asked about every minute, so it is another than the one that answers.
-            TimedRuns search = new TimedRuns();
-            for (char sign : text.toCharArray()) {
-                search.type(sign);
-            }
-            search.job(0);
             Desk x = Desk.withJob(text);
             int from = 0;
             for (int i = 0; i < 12; i++) {
                 int found = x.next(0, from);
-                int due = from + 1;
-                while (due < Checks.LIMIT && !search.holds(0, due)) {
-                    due++;
-                }
-                Checks.due("next of " + text + " at " + from, found, due < Checks.LIMIT ? due : Checks.NONE);
+                Checks.due("next of " + text + " at " + from, found, firstAbove(text, from));
                 from = (Math.max(0, found) + 1234567 * (i % 3)) % Checks.LIMIT;
             }
         }
+    }
+
+    /** The first minute above this one at which holds() is true, asked of one object after the other. */
+    private static int firstAbove(String text, int minute) {
+        TimedRuns asked = null;
+        int left = 0;
+        for (int at = minute + 1; at < Checks.LIMIT; at++) {
+            if (left == 0) {
+                asked = new TimedRuns();
+                for (char sign : text.toCharArray()) {
+                    asked.type(sign);
+                }
+                asked.job(0);
+                left = 450;
+            }
+            left--;
+            if (asked.holds(0, at)) {
+                return at;
+            }
+        }
+        return Checks.NONE;
     }
 
     static void promise9OutsideTheMinutes() {
